@@ -1,0 +1,133 @@
+import java.lang.reflect.Field;
+import java.lang.reflect.Method;
+import java.lang.reflect.Modifier;
+import java.nio.file.Files;
+import java.nio.file.Path;
+import java.util.Arrays;
+import java.util.Set;
+import java.util.TreeSet;
+import java.util.regex.Matcher;
+import java.util.regex.Pattern;
+
+/** The rules of LANGUAGE.md that a program can look at: the face, the words that may not stand, sizes. */
+public final class LanguageTest {
+    private static final String FACE = "public int feed(int n, long bytes);public int street(int s);public int fault();"
+            + "public int told(int s, int what);public int door(int s, int i, int what);public int chance(int s, int i, boolean free);"
+            + "public int taking(int s, int r, int i);public int worth(int s, int r, int i, int sight);"
+            + "public int goingOn(int s, int r, int i, int sight);public int takes(int s, int r, int i, int sight);"
+            + "public int start(int s, int r);public int end(int s, int r, int what);public int bar(int s, int r);"
+            + "public int which(int a, int b);public int rule();public int mean(int s, int rule, int what);public int saw(boolean free);"
+            + "public int clear();public int judge(int s, int r, boolean taken);public int thought(int a, int b);"
+            + "public int waits(int s, int r, int i, int sight, int q, int u, int what);public int boy(int s);"
+            + "public int car(int walk, int bar);public int steer(int c, int b);public int parks(int s, int set, int c, int what);"
+            + "public int rests(int s, int set);public int turn(int s, int set);public int allRests(int s, int set);"
+            + "public int lost(int s, int set);public int mend(int s, int set, int x);public int seed(int v);"
+            + "public int evening(int s, int rule, int n);public int count(int what);public int keep(int i);public int goBack(int i);";
+    private static final String FORBIDDEN = "throw|try|catch|synchronized|assert|import|package|instanceof|double|float|equals|hashCode"
+            + "|toString|finally|protected|default ->|Exact|Object|Random|Thread|currentTimeMillis|nanoTime|native|volatile|transient";
+
+    public static void main(String[] args) throws Exception {
+        String source = Files.readString(Path.of("src/main/java/LastPlace.java"));
+        face(source);
+        members();
+        words(code(source));
+        sizes(source);
+        Due.close();
+    }
+
+    private static void face(String source) {
+        for (String method : FACE.split(";")) {
+            Due.is("the face has '" + method + "'", source.contains(method + " {") ? 1 : 0, 1);
+        }
+        Due.is("the constructor", source.contains("public LastPlace() {") ? 1 : 0, 1);
+    }
+
+    private static void members() {
+        Set<String> publicNames = new TreeSet<>();
+        int publicMethods = 0;
+        for (Method method : LastPlace.class.getDeclaredMethods()) {
+            boolean open = Modifier.isPublic(method.getModifiers());
+            Due.is(method + " is public or private", open || Modifier.isPrivate(method.getModifiers()) ? 1 : 0, 1);
+            Due.is(method + " is not made by the compiler", method.isSynthetic() ? 1 : 0, 0);
+            publicMethods += open ? 1 : 0;
+            if (open) {
+                publicNames.add(method.getName());
+            }
+        }
+        Due.is("public methods", publicMethods, 35);
+        int constants = 0;
+        for (Field field : LastPlace.class.getDeclaredFields()) {
+            int m = field.getModifiers();
+            Due.is(field + " is public or private", Modifier.isPublic(m) || Modifier.isPrivate(m) ? 1 : 0, 1);
+            Due.is(field + ", if static, is final", !Modifier.isStatic(m) || Modifier.isFinal(m) ? 1 : 0, 1);
+            constants += Modifier.isPublic(m) ? 1 : 0;
+        }
+        Due.is("public constants", constants, 5);
+        Due.is("constructors", LastPlace.class.getDeclaredConstructors().length, 1);
+        Due.is("the class is final", Modifier.isFinal(LastPlace.class.getModifiers()) ? 1 : 0, 1);
+        Class<?>[] inside = LastPlace.class.getDeclaredClasses();
+        Due.is("twelve classes at most", inside.length <= 12 ? 1 : 0, 1);
+        for (Class<?> type : inside) {
+            Due.is(type + " is static", Modifier.isStatic(type.getModifiers()) ? 1 : 0, 1);
+            insideMembers(type, publicNames);
+        }
+    }
+
+    private static void insideMembers(Class<?> type, Set<String> publicNames) {
+        int fields = 0;
+        for (Field field : type.getDeclaredFields()) {
+            int m = field.getModifiers();
+            Due.is(field + ", if static, is final", !Modifier.isStatic(m) || Modifier.isFinal(m) ? 1 : 0, 1);
+            fields += Modifier.isStatic(m) ? 0 : 1;
+        }
+        Due.is(type + " has twenty fields at most", fields <= 20 ? 1 : 0, 1);
+        for (Method method : type.getDeclaredMethods()) {
+            Due.is(method + " takes seven at most", method.getParameterCount() <= 7 ? 1 : 0, 1);
+            Due.is(method + " does not bear a public name", publicNames.contains(method.getName()) ? 1 : 0, 0);
+        }
+    }
+
+    /** The source without its comments and texts. */
+    private static String code(String source) {
+        String bare = source.replaceAll("(?s)/\\*.*?\\*/", " ").replaceAll("//[^\n]*", " ");
+        return bare.replaceAll("\"[^\"\n]*\"", "\"\"").replaceAll("'[^'\n]+'", "' '");
+    }
+
+    private static void words(String code) {
+        Matcher matcher = Pattern.compile("\\b(" + FORBIDDEN + ")\\b|->|::|\\blambda\\b").matcher(code);
+        while (matcher.find()) {
+            Due.is("'" + matcher.group() + "' stands in the program", 1, 0);
+        }
+        Matcher calls = Pattern.compile("\\b(Math|Integer|Long|System|Arrays|String)\\.(\\w+)").matcher(code);
+        Set<String> allowed = Set.of("Math.max", "Math.min", "Integer.bitCount", "System.arraycopy");
+        while (calls.find()) {
+            Due.is("'" + calls.group() + "' is in the library", allowed.contains(calls.group()) ? 1 : 0, 1);
+        }
+    }
+
+    private static void sizes(String source) {
+        String[] lines = source.split("\n", -1);
+        int begin = -1;
+        int indent = 0;
+        for (int k = 0; k < lines.length; k++) {
+            String line = lines[k];
+            Due.is("line " + (k + 1) + " has signs 1 to 126 alone", line.chars().allMatch(c -> c >= 32 && c <= 126) ? 1 : 0, 1);
+            int blanks = line.length() - line.stripLeading().length();
+            if (begin < 0 && line.endsWith(") {") && (blanks == 4 || blanks == 8) && !line.matches(" *(if|for|while|switch|\\}).*")) {
+                begin = k;
+                indent = blanks;
+            } else if (begin >= 0 && line.equals(" ".repeat(indent) + "}")) {
+                Due.is("the method at line " + (begin + 1) + " is short", k - begin + 1 <= 60 ? 1 : 0, 1);
+                Due.is("the method at line " + (begin + 1) + " makes no object", makesNone(lines, begin, k) ? 1 : 0, 1);
+                begin = -1;
+            }
+        }
+        Due.is("methods were found", begin, -1);
+    }
+
+    /** All rows are made in constructors, so that no run of calls fills the room. */
+    private static boolean makesNone(String[] lines, int begin, int end) {
+        boolean constructor = lines[begin].matches(" *(public )?[A-Z]\\w*\\(.*");
+        return constructor || Arrays.stream(lines, begin, end).noneMatch(line -> line.matches(".*\\bnew\\b.*"));
+    }
+}
