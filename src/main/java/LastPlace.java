@@ -34,7 +34,7 @@ public final class LastPlace {
     private final Scene[] images = new Scene[IMAGES];
     private final boolean[] kept = new boolean[IMAGES];
     private final Reckoner reckoner = new Reckoner();
-    private final Parking parking = new Parking(now, draft);
+    private final Parking parking = new Parking(now);
 
     public LastPlace() {
         for (int s = 0; s < STREETS; s++) {
@@ -74,7 +74,7 @@ public final class LastPlace {
         if (answer < 0) {
             return answer;
         }
-        streets[s].copyFrom(draft);
+        streets[s].become(draft);
         ways[s].reckon();
         return streets[s].doors();
     }
@@ -588,15 +588,20 @@ public final class LastPlace {
         final int[] values = new int[TOLD];
         final int[] frees = new int[MOST_DOORS];
         final int[] prices = new int[MOST_DOORS];
+        private final int[] lateness = new int[MOST_ROUNDS];
 
         int doors() {
             return values[DOORS];
         }
 
-        void copyFrom(Street other) {
+        /** Being late is the same at each DOOR of a ROUND, so it is reckoned here once for all. */
+        void become(Street other) {
             System.arraycopy(other.values, 0, values, 0, TOLD);
             System.arraycopy(other.frees, 0, frees, 0, MOST_DOORS);
             System.arraycopy(other.prices, 0, prices, 0, MOST_DOORS);
+            for (int r = 0; r < MOST_ROUNDS; r++) {
+                lateness[r] = values[LATE] * Math.max(0, arrivalOf(r) - values[CURTAIN]);
+            }
         }
 
         void readFrom(Text text) {
@@ -695,15 +700,11 @@ public final class LastPlace {
 
         /** When one stands at the theatre: a DOOR's TICK and its walk come to the same as the garage's TICK. */
         private int arrivalOf(int r) {
-            return r * (doors() + values[ROUND]) + doors();
+            return r * (values[DOORS] + values[ROUND]) + values[DOORS];
         }
 
         boolean isLateIn(int r) {
             return arrivalOf(r) > values[CURTAIN];
-        }
-
-        private int latenessOf(int r) {
-            return values[LATE] * Math.max(0, arrivalOf(r) - values[CURTAIN]);
         }
 
         int takingOf(int r, int i) {
@@ -711,11 +712,11 @@ public final class LastPlace {
         }
 
         int takingBy(int walk, int r, int i) {
-            return (prices[i] + walk * (doors() - i) + latenessOf(r)) * THOUSAND;
+            return (prices[i] + walk * (values[DOORS] - i) + lateness[r]) * THOUSAND;
         }
 
         int garageOf(int r) {
-            return (values[GARAGE] + latenessOf(r)) * THOUSAND;
+            return (values[GARAGE] + lateness[r]) * THOUSAND;
         }
 
         int passing() {
@@ -728,7 +729,7 @@ public final class LastPlace {
 
         /** How many SIGHTS there are at a DOOR. */
         int sightsAt(int i) {
-            return 1 << Math.min(values[SEE] + 1, doors() - i);
+            return 1 << Math.min(values[SEE] + 1, values[DOORS] - i);
         }
     }
 
@@ -810,7 +811,8 @@ public final class LastPlace {
         }
 
         int worthOf(int r, int i, int sight) {
-            return isTaken(r, i, sight) ? street.takingOf(r, i) : onwardOf(r, i, sight);
+            int onwards = onwardOf(r, i, sight);
+            return (sight & 1) == 0 ? onwards : Math.min(onwards, street.takingOf(r, i));
         }
 
         int barOf(int r) {
@@ -1115,23 +1117,21 @@ public final class LastPlace {
         final int[] bars = new int[CARS];
         private final int[] costs = new int[CARS * PLACES];
         private final int[] given = new int[1 << CARS];
-        private Street street;
+        private int n = 0;
         private int free = 0;
         private int dearFrom = 0;
         private int dearer = 0;
 
-        Parking(Scene scene, Street street) {
+        Parking(Scene scene) {
             this.scene = scene;
-            this.street = street;
         }
 
-        void comeTo(Street where, int set) {
-            street = where;
+        void comeTo(Street street, int set) {
+            n = street.doors();
             free = set;
             dearFrom = 0;
             dearer = 0;
             System.arraycopy(scene.bars, 0, bars, 0, CARS);
-            int n = street.doors();
             for (int c = 0; c < scene.carCount; c++) {
                 for (int i = 0; i < n; i++) {
                     costs[c * PLACES + i] = street.takingBy(scene.walks[c], 0, i) + i * street.passing();
@@ -1145,17 +1145,17 @@ public final class LastPlace {
         }
 
         private int paidAt(int c, int place) {
-            boolean dear = place >= dearFrom && place < street.doors();
+            boolean dear = place >= dearFrom && place < n;
             return costAt(c, place) + (dear ? dearer : 0);
         }
 
         private int placeFrom(int bar, int left) {
-            for (int i = bar; i < street.doors(); i++) {
+            for (int i = bar; i < n; i++) {
                 if ((left >> i & 1) != 0) {
                     return i;
                 }
             }
-            return street.doors();
+            return n;
         }
 
         /** The garage is no DOOR of the SET, so its bit takes nothing away. */
@@ -1173,10 +1173,10 @@ public final class LastPlace {
 
         /** From the last BAR back, so that of like ones the least is found last. */
         private int bestBar(int c, int left) {
-            int best = street.doors();
+            int best = n;
             int place = best;
             int least = paidAt(c, place);
-            for (int b = street.doors() - 1; b >= 0; b--) {
+            for (int b = n - 1; b >= 0; b--) {
                 if ((left >> b & 1) != 0) {
                     place = b;
                 }
@@ -1187,7 +1187,7 @@ public final class LastPlace {
                 }
             }
             // A BAR behind n is none of those that may be taken, though it is the garage too.
-            boolean ownIsLike = bars[c] <= street.doors() && paidAt(c, placeFrom(bars[c], left)) == least;
+            boolean ownIsLike = bars[c] <= n && paidAt(c, placeFrom(bars[c], left)) == least;
             return ownIsLike ? bars[c] : best;
         }
 
@@ -1229,7 +1229,6 @@ public final class LastPlace {
 
         /** Of two CARS at most; one that there is not has one row alone. */
         int countRests() {
-            int n = street.doors();
             int mostFirst = scene.carCount > 0 ? n : 0;
             int mostSecond = scene.carCount > 1 ? n : 0;
             int rests = 0;
@@ -1253,10 +1252,9 @@ public final class LastPlace {
             return all;
         }
 
-        /** By the SET of CARS that were given a DOOR so far; the others are in the garage. */
+        /** Reckons for each SET of CARS, if these alone may be given a DOOR; the last SET is all of them. */
         int leastOfAll() {
             int sets = 1 << scene.carCount;
-            int n = street.doors();
             for (int set = 0; set < sets; set++) {
                 given[set] = 0;
                 for (int c = 0; c < scene.carCount; c++) {
@@ -1273,7 +1271,6 @@ public final class LastPlace {
 
         /** Downwards, so that a DOOR is given to one CAR at most. */
         private void giveDoor(int i, int sets) {
-            int n = street.doors();
             for (int set = sets - 1; set > 0; set--) {
                 for (int c = 0; c < scene.carCount; c++) {
                     if ((set >> c & 1) != 0) {

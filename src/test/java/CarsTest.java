@@ -224,11 +224,20 @@ public final class CarsTest {
         Due.is("nothing to mend", x.mend(0, 15, 3), 0);
         Due.is("bars stay", x.steer(0, 7), 7);
         Due.is("bars stay", x.steer(1, 8), 8);
+        x.steer(0, 3);
+        Due.is("from all 0, though 3 is like 0 to the first", x.mend(0, 15, 3), 0);
+        // 20 more for DOOR 1 are what it is nearer: from 0, of like ones the first stays there
+        LastPlace z = Due.with("doors 2 free 50 price 0;walk 9;drive 0;curtain 200;garage 400;");
+        z.car(20, 0);
+        z.car(99, 0);
+        Due.is("each p begins from all 0", z.mend(0, 3, 1), 2);
         LastPlace y = Due.with("doors 2 free 50 price 0;walk 9;drive 0;curtain 200;garage 400;");
         y.car(15, 0);
         y.car(99, 0);
         // the first has DOOR 1: 15 and 198; the other way 30 and 99: the first moves when 10 p is more than 15
         Due.is("p 2", y.mend(0, 3, 1), 2);
+        Due.is("from all 0, wherever they are now", y.steer(0, 1), 0);
+        Due.is("p 2 again", y.mend(0, 3, 1), 2);
         // from 0 on both DOORS are dearer: nothing changes
         Due.is("p 0", y.mend(0, 3, 0), 0);
         Due.street(y, 1, "doors 2 free 50 price 0;walk 9;drive 0;curtain 200;garage 0;");

@@ -4,7 +4,9 @@ import java.lang.reflect.Modifier;
 import java.nio.file.Files;
 import java.nio.file.Path;
 import java.util.Arrays;
+import java.util.Map;
 import java.util.Set;
+import java.util.TreeMap;
 import java.util.TreeSet;
 import java.util.regex.Matcher;
 import java.util.regex.Pattern;
@@ -32,6 +34,7 @@ public final class LanguageTest {
         members();
         words(code(source));
         sizes(source);
+        depths(code(source));
         Due.close();
     }
 
@@ -129,5 +132,39 @@ public final class LanguageTest {
     private static boolean makesNone(String[] lines, int begin, int end) {
         boolean constructor = lines[begin].matches(" *(public )?[A-Z]\\w*\\(.*");
         return constructor || Arrays.stream(lines, begin, end).noneMatch(line -> line.matches(".*\\bnew\\b.*"));
+    }
+
+    /** By names alone: methods of one name count as one, which can only make a way longer. */
+    private static void depths(String code) {
+        Map<String, Set<String>> calls = new TreeMap<>();
+        Matcher heads = Pattern.compile("\\n( {4}| {8})(?! |return|else|new|if|for|while|switch)[\\w\\[\\] ]*?(\\w+)\\([^()]*\\) \\{\\n(.*?)\\n\\1\\}", Pattern.DOTALL)
+                .matcher(code);
+        for (int from = 0; heads.find(from); from = heads.end() - 1) {
+            Set<String> called = calls.computeIfAbsent(heads.group(2), name -> new TreeSet<>());
+            Matcher names = Pattern.compile("\\b(\\w+)\\(").matcher(heads.group(3));
+            while (names.find()) {
+                called.add(names.group(1));
+            }
+        }
+        Due.is("the methods were found", calls.containsKey("feed") && calls.containsKey("reckonNext") ? 1 : 0, 1);
+        int deepest = 0;
+        for (String name : calls.keySet()) {
+            deepest = Math.max(deepest, depth(calls, name, 0));
+        }
+        System.out.println("methods by name: " + calls.size() + ", calls go " + deepest + " deep");
+        Due.is("calls go eight deep at most", deepest <= 8 ? 1 : 0, 1);
+    }
+
+    /** A method that comes back to itself would go on to 100. */
+    private static int depth(Map<String, Set<String>> calls, String name, int above) {
+        int deepest = 0;
+        if (above < 100) {
+            for (String called : calls.getOrDefault(name, Set.of())) {
+                if (calls.containsKey(called)) {
+                    deepest = Math.max(deepest, depth(calls, called, above + 1));
+                }
+            }
+        }
+        return deepest + 1;
     }
 }

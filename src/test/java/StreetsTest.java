@@ -112,6 +112,12 @@ public final class StreetsTest {
         Due.streetFault("  doorss 5 free 5 price 5;", 1, 2);
         Due.streetFault("doorsfree 5", 1, 0);
         Due.streetFault("do", 1, 0);
+        Due.streetFault("walkz 3;", 1, 0);
+        Due.streetFault("walka 3;", 1, 0);
+        Due.streetFault("walk{ 3;", 1, 4);
+        Due.streetFault("walk` 3;", 1, 4);
+        Due.streetFault("walk 3/;", 1, 6);
+        Due.streetFault("walk 3:;", 1, 6);
         Due.streetFault("Doors 5", 1, 0);
         Due.streetFault("doorS 5", 1, 0);
         Due.streetFault("doors\t5 free 5 price 5;", 1, 5);
