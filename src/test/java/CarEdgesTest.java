@@ -381,6 +381,12 @@ public final class CarEdgesTest {
             Due.is("the first one at DOOR 1", x.parks(0, 3, 0, 0), 1);
             Due.is("for nothing more", x.parks(0, 3, 0, 1), 0);
         }
+        // nor is it left where a DOOR is but little less than the garage
+        LastPlace z = with("doors 1 free 50 price 0;drive 0;garage 50;", 10, 0);
+        Due.is("nothing to mend", z.mend(0, 1, 0), 0);
+        Due.is("at rest", z.rests(0, 1), 1);
+        Due.is("one row of BARS", z.allRests(0, 1), 1);
+        Due.is("no turn", z.turn(0, 1), 0);
         // the dearer DOOR would be too much to be paid for what it mends, but that does not count
         LastPlace y = with("doors 1 free 50 price 100;doors 1 free 50 price 0;drive 0;garage 999;", 0, 0, 99, 0);
         Due.is("p 10, though the second one pays 100 more", y.mend(0, 3, 1), 10);

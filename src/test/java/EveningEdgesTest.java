@@ -258,6 +258,7 @@ public final class EveningEdgesTest {
         Due.is("RULES", x.count(0), 1);
         Due.is("THE TEXT", x.count(4), 7);
         Due.is("THE SEED is 0", x.seed(8), 0);
+        Due.is("another CAR 0", x.car(99, 24), 0);
         Due.is("THE TEXT goes on", Due.street(x, 1, " free 3 price 4;"), 7);
         Due.street(x, 0, "doors 4 free 50 price 1;drive 0;garage 90;see 3;");
         Due.is("a fault", x.fault(), 46);

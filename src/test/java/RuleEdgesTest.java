@@ -246,6 +246,9 @@ public final class RuleEdgesTest {
             Due.rule(y, "from 0");
             Due.is("without 'round'", y.mean(0, 0, 0), 52000);
             Due.is("without 'round', an evening", y.evening(0, 0, 1), 52);
+            Due.is("a fault behind 'round'", Due.rule(y, "from 0 seen 1 from 1 round 3 x"), -11);
+            Due.is("a rule in its place", Due.rule(y, "from 0"), 1);
+            Due.is("without 'round', too", y.mean(0, 1, 0), 52000);
         }
     }
 
@@ -259,6 +262,14 @@ public final class RuleEdgesTest {
             Due.is("curtain " + c[0], x.mean(0, 0, 1), c[1]);
             Due.is("curtain " + c[0] + ", by the garage", x.mean(0, 1, 1), c[0] < 16 ? 1000000 : 0);
             Due.is("the garage", x.mean(0, 0, 2), 62500);
+        }
+        for (int curtain = 4; curtain <= 6; curtain++) {
+            LastPlace y = Due.with("doors 5 free 100 price 0;curtain " + curtain + ";");
+            Due.rule(y, "from 0");
+            Due.rule(y, "from 4");
+            Due.is("the first DOOR, curtain " + curtain, y.mean(0, 0, 1), curtain < 5 ? 1000000 : 0);
+            Due.is("the last DOOR, curtain " + curtain, y.mean(0, 1, 1), curtain < 5 ? 1000000 : 0);
+            Due.is("never the garage", y.mean(0, 0, 2), 0);
         }
     }
 
@@ -412,6 +423,14 @@ public final class RuleEdgesTest {
             v /= 2;
             Due.is(k + " free ones", x.thought(0, 1), (int) (1000000000000L / (1000000 + v)));
             Due.is(k + " free ones, the other way", x.thought(1, 0), (int) (v * 1000000L / (1000000 + v)));
+        }
+        // 1 is left of v at the 19th; at the 20th w is 0, so that the greater is 1, and v is all from there on
+        LastPlace y = Due.with("doors 19 free 100 price 0;doors 5 free 0 price 0;");
+        Due.street(y, 1, "doors 19 free 50 price 0;doors 1 free 100 price 0;doors 4 free 50 price 0;");
+        for (int k = 1; k <= 24; k++) {
+            y.saw(true);
+            Due.is(k + " free ones, at most 19", y.thought(0, 1) == 0 ? 1 : 0, k < 20 ? 0 : 1);
+            Due.is(k + " free ones, the other one is all", y.thought(1, 0) == 1000000 ? 1 : 0, k < 20 ? 0 : 1);
         }
     }
 }

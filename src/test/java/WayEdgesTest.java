@@ -211,6 +211,17 @@ public final class WayEdgesTest {
         Due.is("by what is seen", x.bar(0, 0), NONE);
         Due.street(x, 0, "doors 1 free 50 price 99;doors 2 free 50 price 0;walk 2;drive 1;see 1;garage 80;");
         Due.is("by what is seen at DOOR 1", x.bar(0, 0), NONE);
+        // taken only if the next one (too dear) is free, as then the last one is not
+        Due.street(x, 0, "doors 1 free 50 price 50;doors 1 free 50 price 900;doors 1 free 50 price 0;alike -50;walk 0;drive 0;see 1;garage 100;");
+        Due.is("not by DOOR 0 alone", x.takes(0, 0, 0, 1), 0);
+        Due.is("by DOORS 0 and 1", x.takes(0, 0, 0, 3), 1);
+        Due.is("at no DOOR ahead of b with any SIGHT", x.bar(0, 0), NONE);
+        // likewise only if the one behind the next is free
+        Due.street(x, 0, "doors 1 free 50 price 50;doors 2 free 50 price 900;doors 1 free 50 price 0;alike -50;walk 0;drive 0;see 2;garage 100;");
+        Due.is("not by DOOR 0 alone", x.takes(0, 0, 0, 1), 0);
+        Due.is("not by DOORS 0 and 1", x.takes(0, 0, 0, 3), 0);
+        Due.is("by DOORS 0 and 2", x.takes(0, 0, 0, 5), 1);
+        Due.is("at no DOOR ahead of b with any SIGHT", x.bar(0, 0), NONE);
     }
 
     private static void barsByRound() {
