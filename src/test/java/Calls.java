@@ -15,7 +15,7 @@ final class Calls {
     enum State {
         /** Nothing: as it was made. */
         NEW,
-        /** STREETS 0 and 1, two RULES, a ROW of two, two CARS, IMAGE 0, a TEXT of 30 bytes. */
+        /** STREETS 0 and 1, two RULES, a FAULT, a ROW of two, two CARS, IMAGE 0, a TEXT of 30 bytes. */
         SOME,
         /** As SOME, and a third CAR; the last DOOR of THE ROW is not free. */
         THREE_CARS,
@@ -109,6 +109,9 @@ final class Calls {
         calls += feeds(target, STREET_1);
         ask(target, "street", 1);
         calls += rules(target, state == State.ALL || state == State.FOUR_RULES ? 4 : 2);
+        // a FAULT that stays to be told
+        calls += 1 + feeds(target, "  x");
+        ask(target, "street", 2);
         // IMAGE 0 is another scene than the one that is left
         ask(target, "saw", 0);
         ask(target, "saw", 1);
