@@ -26,6 +26,7 @@ public final class CarEdgesTest {
         pAt0AndAt20();
         xAtTheFirstAndTheLastDoor();
         mendLeavesAll();
+        mendFromAll0();
         Due.close();
     }
 
@@ -390,5 +391,17 @@ public final class CarEdgesTest {
         // the dearer DOOR would be too much to be paid for what it mends, but that does not count
         LastPlace y = with("doors 1 free 50 price 100;doors 1 free 50 price 0;drive 0;garage 999;", 0, 0, 99, 0);
         Due.is("p 10, though the second one pays 100 more", y.mend(0, 3, 1), 10);
+    }
+
+    /** "BARS that are found BY TURNS from all 0": each DOOR is like for the first CAR, so that its own BAR would stay. */
+    private static void mendFromAll0() {
+        for (int bar = 0; bar <= 1; bar++) {
+            // walk 1, drive 1: 2 at either DOOR; the second CAR has 100 at DOOR 1, 198 at DOOR 0
+            LastPlace x = with("doors 2 free 50 price 0;drive 1;garage 999;", 1, bar, 99, 0);
+            Due.is("its own stays, from " + bar, x.turn(0, 3), 0);
+            Due.is("LOST, from " + bar, x.lost(0, 3), bar == 0 ? 0 : 98000);
+            Due.is("from all 0 there is nothing to mend, whatever BARS are: " + bar, x.mend(0, 3, 1), 0);
+            Due.is("BARS stay", x.steer(0, bar), bar);
+        }
     }
 }

@@ -13,6 +13,8 @@ public final class EveningEdgesTest {
         drawsBelowTheChance();
         aDrawForEachDoorThatOneComesTo();
         roundsDrawAgain();
+        whatOneRoundCosts();
+        takenOnesAreNotPassed();
         oneAndFiftyEvenings();
         countOfWhat();
         imagesThatWereNotKept();
@@ -170,6 +172,29 @@ public final class EveningEdgesTest {
         x.seed(12345);
         // 68 and 88 are not below 68, though one DOOR is taken ahead
         Due.is("68, then 88", x.evening(0, 2, 1), 1 + 7 + 1 + 50);
+    }
+
+    /** TAKING and the garage are those of the ROUND in which one comes to them. */
+    private static void whatOneRoundCosts() {
+        // DRAWS 0, 68, 88, 17: free, taken; taken, free; ROUND 1 is at the theatre at 9 and 2, so 9 late
+        LastPlace x = Due.with("doors 2 free 50 price 0;walk 1;drive 1;late 3;curtain 2;round 7 times 1;garage 50;");
+        Due.rule(x, "from 1 round 1");
+        Due.rule(x, "from 2 round 1");
+        Due.is("DOOR 1 of ROUND 1", x.evening(0, 0, 1), 2 + 7 + 1 + 1 + 27);
+        Due.is("the garage of ROUND 1", x.evening(0, 1, 1), 2 + 7 + 2 + 50 + 27);
+        Due.rule(x, "from 0");
+        x.seed(0);
+        Due.is("DOOR 0 of ROUND 0", x.evening(0, 2, 1), 2);
+    }
+
+    /** "how many free DOORS were passed": DRAWS 0, 68, 88, 17: one at DOOR 3, though three were passed in all. */
+    private static void takenOnesAreNotPassed() {
+        LastPlace x = Due.with("doors 4 free 50 price 0;walk 1;drive 0;garage 50;");
+        for (int m = 1; m <= 3; m++) {
+            Due.rule(x, "from 24 seen " + m + " from 0");
+            x.seed(0);
+            Due.is("seen " + m, x.evening(0, m - 1, 1), m == 1 ? 1 : 50);
+        }
     }
 
     /** "EVENINGS by a RULE, n of them (1 .. 50): all that they cost together". */

@@ -24,6 +24,7 @@ public final class RuleEdgesTest {
         rowEmptyOrTooLong();
         sightsNotAllTold();
         wrongAtTheLast();
+        judgedInItsRound();
         thoughtOfNothing();
         thoughtAsFarAsBothHaveIt();
         thoughtWhereBothAre0();
@@ -189,6 +190,11 @@ public final class RuleEdgesTest {
         LastPlace y = Due.with("doors 2 free 100 price 0;doors 2 free 0 price 0;doors 2 free 100 price 0;walk 1;drive 0;garage 200;");
         Due.rule(y, "from 2");
         Due.is("behind it", y.mean(0, 0, 0), 2000);
+        // one drives by the RULE, though the DOOR ahead of B is for nothing and those behind are dearer than the garage
+        LastPlace z = Due.with("doors 1 free 100 price 0;doors 1 free 100 price 50;walk 0;drive 0;garage 40;");
+        Due.rule(z, "from 1");
+        Due.is("by the RULE", z.mean(0, 0, 0), 50000);
+        Due.is("by the RULE, an evening", z.evening(0, 0, 1), 50);
     }
 
     /** "whose M is no more than how many free DOORS were passed": at M passed it counts, at one less it does not. */
@@ -364,6 +370,16 @@ public final class RuleEdgesTest {
             Due.is(rows[k] + " passed", x.judge(0, 0, false), passed[k]);
             Due.is(rows[k] + " TAKEN", x.judge(0, 0, true), taken[k]);
         }
+    }
+
+    /** "JUDGED in a STREET in ROUND r": by the best way of that ROUND. */
+    private static void judgedInItsRound() {
+        LastPlace x = Due.with("doors 1 free 100 price 40;doors 1 free 50 price 0;walk 0;drive 0;see 0;round 0 times 1;garage 100;");
+        see(x, "1");
+        Due.is("DOOR 0 is not to be taken in ROUND 0", x.judge(0, 0, true), 0);
+        Due.is("but to be passed", x.judge(0, 0, false), NONE);
+        Due.is("DOOR 0 is to be taken in ROUND 1", x.judge(0, 1, true), NONE);
+        Due.is("not to be passed", x.judge(0, 1, false), 0);
     }
 
     /** "w of STREET a, v of STREET b are 500000 at first". */

@@ -431,6 +431,10 @@ public final class TextEdgesTest {
         }
         Due.rule(x, "from 0 from");
         Due.is("stays behind FULL: of the rule ahead", x.fault(), NONE);
+        Due.is("of a street", x.street(0) == -11 ? x.fault() : UNKNOWN, 0);
+        Due.text(x, "from 0");
+        Due.is("FULL", x.rule(), FULL);
+        Due.is("stays behind FULL: of the street ahead", x.fault(), 0);
     }
 
     /** "C of it; if i is above 0: and A, if DOOR i - 1 is free, less A, if not (0 to 100 then)". */

@@ -13,13 +13,16 @@ public final class WayEdgesTest {
         theEndInTheLastRound();
         theEndIfRoundIsLess();
         cutEach();
+        startIsCutAtEachDoor();
         theDoorAheadAsSeen();
         barsAt0AndAtN();
         barsWithin();
         noBar();
         barsByRound();
+        takenByRound();
         sightsWithoutChance();
         whichOfTwo();
+        whichByStart();
         Due.close();
     }
 
@@ -167,6 +170,25 @@ public final class WayEdgesTest {
         }
     }
 
+    /** START: "each as in ON, cut each": from the last DOOR seen back, not once for all that may be seen. */
+    private static void startIsCutAtEachDoor() {
+        LastPlace x = Due.with("doors 2 free 33 price 0;walk 0;drive 0;see 1;garage 1;");
+        // nothing free 1000, else 0: 670, then 448 (.9); behind a free DOOR 0 nothing is left
+        Due.is("two DOORS", x.start(0, 0), 448);
+        Due.street(x, 0, "doors 3 free 34 price 0;walk 0;drive 0;see 2;garage 1;");
+        // 660, 435 (.6), 287 (.1); once for all it were 287 (.496)
+        Due.is("three DOORS", x.start(0, 0), 287);
+        Due.street(x, 0, "doors 3 free 1 price 0;walk 0;drive 0;see 2;garage 1;");
+        // 990, 980 (.1), 970 (.2)
+        Due.is("three DOORS, seldom free", x.start(0, 0), 970);
+        Due.street(x, 0, "doors 3 free 13 price 0;walk 0;drive 0;see 2;garage 1;");
+        // 870, 756 (.9), 657 (.72); once for all it were 658 (.503)
+        Due.is("three DOORS, cut twice", x.start(0, 0), 657);
+        Due.street(x, 0, "doors 2 free 7 price 0;alike -6;walk 0;drive 0;see 1;garage 1;");
+        // behind a free one 1 of a hundred, but that one is free; behind a taken one 13: 870, then 809 (.1)
+        Due.is("two DOORS apart", x.start(0, 0), 809);
+    }
+
     /** "its CHANCE by the DOOR ahead of it as seen": bit S of the SIGHT, also where that is bit 0. */
     private static void theDoorAheadAsSeen() {
         for (int see = 0; see <= 2; see++) {
@@ -233,6 +255,22 @@ public final class WayEdgesTest {
         Due.is("START of 0", x.start(0, 0), 20000);
     }
 
+    /** The best way of a ROUND: in the last one DOOR 0 is taken, ahead of it not, as one may come back to it. */
+    private static void takenByRound() {
+        LastPlace x = Due.with("doors 1 free 100 price 40;doors 1 free 50 price 0;walk 0;drive 0;see 0;round 0 times 2;garage 100;");
+        int[] takes = {0, 0, 1};
+        int[] worths = {10000, 20000, 40000};
+        int[] onwards = {10000, 20000, 50000};
+        for (int r = 0; r <= 2; r++) {
+            Due.is("takes in ROUND " + r, x.takes(0, r, 0, 1), takes[r]);
+            Due.is("worth in ROUND " + r, x.worth(0, r, 0, 1), worths[r]);
+            Due.is("goingOn in ROUND " + r, x.goingOn(0, r, 0, 1), onwards[r]);
+            Due.is("start of ROUND " + r, x.start(0, r), worths[r]);
+            Due.is("whether one goes ROUND from " + r, x.end(0, r, 1), r < 2 ? 1 : 0);
+            Due.is("THE END of " + r, x.end(0, r, 0), r < 2 ? worths[r + 1] : 100000);
+        }
+    }
+
     /** "SIGHTS of DOORS that there are; also such that have no CHANCE". */
     private static void sightsWithoutChance() {
         // DOOR 1 is never free behind a free one, yet a SIGHT may show both
@@ -266,5 +304,18 @@ public final class WayEdgesTest {
         Due.street(y, 1, "doors 1 free 0 price 0;drive 0;curtain 200;late 9;round 9 times 1;garage 11;");
         Due.is("START of 1 is more", y.start(0, 1) > y.start(1, 1) ? 1 : 0, 1);
         Due.is("START of 0 is less", y.which(1, 0), 0);
+    }
+
+    /** "the less START of ROUND 0": not by THE BOY, nor by another ROUND, nor by the garage. */
+    private static void whichByStart() {
+        LastPlace x = Due.with("doors 1 free 100 price 10;walk 0;");
+        Due.street(x, 1, "doors 1 free 100 price 12;doors 1 free 50 price 0;walk 0;drive 0;see 0;garage 100;");
+        Due.is("START 10", x.start(0, 0), 10000);
+        Due.is("START 12", x.start(1, 0), 12000);
+        Due.is("THE BOY would have 6 there", x.boy(1), 6000);
+        Due.is("which", x.which(0, 1) * 10 + x.which(1, 0), 0);
+        Due.street(x, 2, "doors 1 free 100 price 9;walk 0;late 9;curtain 1;round 5 times 1;garage 999;");
+        Due.is("ROUND 1 is dearer", x.start(2, 1) > 12000 ? 1 : 0, 1);
+        Due.is("by ROUND 0", x.which(0, 2) * 10 + x.which(2, 0), 22);
     }
 }
