@@ -11,26 +11,13 @@ import java.util.TreeSet;
 import java.util.regex.Matcher;
 import java.util.regex.Pattern;
 
-/** The rules of LANGUAGE.md that a program can look at: the face, the words that may not stand, sizes. */
+/** The rules of LANGUAGE.md that a program can look at: members, the words that may not stand, sizes, depths. FaceTest has the face. */
 public final class LanguageTest {
-    private static final String FACE = "public int feed(int n, long bytes);public int street(int s);public int fault();"
-            + "public int told(int s, int what);public int door(int s, int i, int what);public int chance(int s, int i, boolean free);"
-            + "public int taking(int s, int r, int i);public int worth(int s, int r, int i, int sight);"
-            + "public int goingOn(int s, int r, int i, int sight);public int takes(int s, int r, int i, int sight);"
-            + "public int start(int s, int r);public int end(int s, int r, int what);public int bar(int s, int r);"
-            + "public int which(int a, int b);public int rule();public int mean(int s, int rule, int what);public int saw(boolean free);"
-            + "public int clear();public int judge(int s, int r, boolean taken);public int thought(int a, int b);"
-            + "public int waits(int s, int r, int i, int sight, int q, int u, int what);public int boy(int s);"
-            + "public int car(int walk, int bar);public int steer(int c, int b);public int parks(int s, int set, int c, int what);"
-            + "public int rests(int s, int set);public int turn(int s, int set);public int allRests(int s, int set);"
-            + "public int lost(int s, int set);public int mend(int s, int set, int x);public int seed(int v);"
-            + "public int evening(int s, int rule, int n);public int count(int what);public int keep(int i);public int goBack(int i);";
     private static final String FORBIDDEN = "throw|try|catch|synchronized|assert|import|package|instanceof|double|float|equals|hashCode"
             + "|toString|finally|protected|default ->|Exact|Object|Random|Thread|currentTimeMillis|nanoTime|native|volatile|transient";
 
     public static void main(String[] args) throws Exception {
         String source = Files.readString(Path.of("src/main/java/LastPlace.java"));
-        face(source);
         members();
         words(code(source));
         sizes(source);
@@ -38,40 +25,20 @@ public final class LanguageTest {
         Due.close();
     }
 
-    private static void face(String source) {
-        for (String method : FACE.split(";")) {
-            Due.is("the face has '" + method + "'", source.contains(method + " {") ? 1 : 0, 1);
-        }
-        Due.is("the constructor", source.contains("public LastPlace() {") ? 1 : 0, 1);
-    }
-
     private static void members() {
         Set<String> publicNames = new TreeSet<>();
-        int publicMethods = 0;
         for (Method method : LastPlace.class.getDeclaredMethods()) {
             boolean open = Modifier.isPublic(method.getModifiers());
             Due.is(method + " is public or private", open || Modifier.isPrivate(method.getModifiers()) ? 1 : 0, 1);
             Due.is(method + " is not made by the compiler", method.isSynthetic() ? 1 : 0, 0);
-            publicMethods += open ? 1 : 0;
             if (open) {
                 publicNames.add(method.getName());
             }
         }
-        Due.is("public methods", publicMethods, 35);
-        int constants = 0;
-        for (Field field : LastPlace.class.getDeclaredFields()) {
-            int m = field.getModifiers();
-            Due.is(field + " is public or private", Modifier.isPublic(m) || Modifier.isPrivate(m) ? 1 : 0, 1);
-            Due.is(field + ", if static, is final", !Modifier.isStatic(m) || Modifier.isFinal(m) ? 1 : 0, 1);
-            constants += Modifier.isPublic(m) ? 1 : 0;
-        }
-        Due.is("public constants", constants, 5);
-        Due.is("constructors", LastPlace.class.getDeclaredConstructors().length, 1);
-        Due.is("the class is final", Modifier.isFinal(LastPlace.class.getModifiers()) ? 1 : 0, 1);
+        insideMembers(LastPlace.class, Set.of());
         Class<?>[] inside = LastPlace.class.getDeclaredClasses();
         Due.is("twelve classes at most", inside.length <= 12 ? 1 : 0, 1);
         for (Class<?> type : inside) {
-            Due.is(type + " is static", Modifier.isStatic(type.getModifiers()) ? 1 : 0, 1);
             insideMembers(type, publicNames);
         }
     }
