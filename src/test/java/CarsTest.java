@@ -171,7 +171,9 @@ public final class CarsTest {
         Due.is("DOOR 0 is better than the garage", x.steer(0, 4), 0);
         Due.is("bar 4 is the garage", x.parks(0, 0, 0, 0), NONE);
         Due.is("bar 4 stays with none free", x.turn(0, 0), 0);
-        Due.is("it is 4", x.steer(0, 0), 4);
+        Due.is("it is 4", x.steer(0, 5), 4);
+        Due.is("bar 5 is the first behind n, and does not stay", x.turn(0, 0), 1);
+        Due.is("the least of like ones", x.steer(0, 0), 0);
     }
 
     private static void allRests() {
